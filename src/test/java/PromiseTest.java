@@ -119,8 +119,10 @@ public final class PromiseTest {
         due("2 INVALID before FULL", x.allocate(0), INVALID);
         due("2 free", x.free(9), 2);
         due("2 freed ones count, too", x.allocate(1), FULL);
+        due("20 allocation 10 of ten", x.isFreed(10), INVALID);
+        due("13 allocation 10 of ten", x.stackSize(10, 0), INVALID);
         due("2 FULL counted", x.errorCount(2), 2);
-        due("2 INVALID counted", x.errorCount(0), 6);
+        due("2 INVALID counted", x.errorCount(0), 8);
         dueStack("2", x, 7, 7, "7U");
         due("2 no cell 8", x.stackSize(7, 8), INVALID);
         due("2 value", x.read(7, 7), 0);
@@ -344,6 +346,9 @@ public final class PromiseTest {
         due("5 REJECTED before the violation", x.reborrow(58, MUTABLE, 0, 1, 1), REJECTED);
         due("5 INVALID before REJECTED", x.reborrow(58, MUTABLE, 0, 2, 1), INVALID);
         due("5 FULL", x.errorCount(2), 1);
+        due("5 pointer 60 of sixty", x.reborrow(60, MUTABLE, 0, 1, 0), INVALID);
+        due("3 pointer 60 of sixty", x.read(60, 0), INVALID);
+        due("17 pointer 60 of sixty", x.allocationOf(60), INVALID);
     }
 
     private static void promise05ErrorOrder() {
@@ -361,6 +366,7 @@ public final class PromiseTest {
         BorrowStacks x = withCells(3);
         due("6 pointer 1", x.free(1), INVALID);
         due("6 pointer -1", x.free(-1), INVALID);
+        due("6 counted", x.errorCount(0), 2);
         x.write(0, 1, 7);
         x.reborrow(0, RAW, 0, 3, 0);
         x.reborrow(1, SHARED, 0, 3, 0);
@@ -694,6 +700,8 @@ public final class PromiseTest {
         script(x, "a1;r0 0", -17);
         script(x, "a1;r0,0;", -15);
         script(x, "r12;", -13);
+        script(x, "r012;", -13);
+        script(x, "w0 012;", -15);
         script(x, "r1;", -12);
         script(x, "w0 0;", -14);
         script(x, "w0 0 0 0;", -17);
