@@ -29,6 +29,7 @@ public final class BorrowStacks {
     private static final long DIGEST_START = 12011L;
     private static final long DIGEST_FACTOR = 31L;
 
+    // Of both rows the elements below the total are never null: the total grows only when one has been put there.
     private final Allocation[] allocations = new Allocation[MAX_ALLOCATIONS];
     private int allocationTotal;
     private final Pointer[] pointers = new Pointer[MAX_POINTERS];
@@ -363,7 +364,7 @@ public final class BorrowStacks {
         int first = script.argument(index, 0);
         int second = script.argument(index, 1);
         int third = script.argument(index, 2);
-        switch (script.letters[index]) {
+        switch (script.letter(index)) {
             case 'a':
                 return performAllocate(first);
             case 'r':
@@ -380,8 +381,10 @@ public final class BorrowStacks {
                 return performFree(first);
             case 'e':
                 return performEnter();
-            default:
+            case 'l':
                 return performLeave();
+            default:
+                return INVALID;
         }
     }
 
@@ -727,8 +730,13 @@ public final class BorrowStacks {
             return true;
         }
 
+        int letter(int command) {
+            return command >= 0 && command < commandTotal ? letters[command] : NONE;
+        }
+
         int argument(int command, int place) {
-            return arguments[command * MAX_ARGUMENTS + place];
+            boolean exists = command >= 0 && command < commandTotal && place >= 0 && place < MAX_ARGUMENTS;
+            return exists ? arguments[command * MAX_ARGUMENTS + place] : NONE;
         }
 
         /** Answers the position of the syntax error, NONE if there is no error. */
@@ -736,10 +744,10 @@ public final class BorrowStacks {
             commandTotal = 0;
             position = 0;
             skipSpaces();
-            boolean sound = true;
-            do {
+            boolean sound = parseCommand();
+            for (int i = 1; i < MAX_COMMANDS && sound && position < length; i++) {
                 sound = parseCommand();
-            } while (sound && position < length && commandTotal < MAX_COMMANDS);
+            }
             return sound ? NONE : position;
         }
 

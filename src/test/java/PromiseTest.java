@@ -1,10 +1,5 @@
 /** One method a promise: ordinary inputs, the edges that the document names, and wrong inputs. */
-public final class PromiseTest {
-    private static final int INVALID = -2, REJECTED = -3, FULL = -4, UNDEFINED = -5, NONE = -1;
-    private static final int MUTABLE = 0, SHARED = 1, RAW = 2;
-    private static final int NO_PERMISSION = 1, PROTECTED = 2, FREED = 3;
-    private static int wrong = 0;
-
+public final class PromiseTest extends Checks {
     public static void main(String[] args) {
         promise01NewObject();
         promise02Allocate();
@@ -40,68 +35,14 @@ public final class PromiseTest {
         promise29Execution();
         promise30Digest();
         questionsChangeNothing();
-        System.out.println(wrong == 0 ? "all answers are as due" : wrong + " answers are not as due");
-        if (wrong != 0) System.exit(1);
-    }
-
-    private static void due(String what, long got, long want) {
-        if (got != want) {
-            wrong++;
-            System.out.println(what + " answered " + got + ", due is " + want);
-        }
-    }
-
-    private static void type(BorrowStacks x, String text) {
-        x.clearText();
-        for (int i = 0; i < text.length(); i++) {
-            due("append of '" + text + "' at " + i, x.append(text.charAt(i)), i + 1);
-        }
-    }
-
-    private static void script(BorrowStacks x, String text, int want) {
-        type(x, text);
-        due("script '" + text + "'", x.runScript(), want);
-        due("length behind script '" + text + "'", x.clearText(), text.length());
-    }
-
-    /** A stack from the bottom as tag, permission letter (U, W, R, D) and ! if protected: "0U 3W!". */
-    private static String stack(BorrowStacks x, int allocation, int cell) {
-        StringBuilder shown = new StringBuilder();
-        int size = x.stackSize(allocation, cell);
-        for (int i = 0; i < size; i++) {
-            if (i > 0) shown.append(' ');
-            shown.append(x.itemTag(allocation, cell, i));
-            shown.append("UWRD".charAt(x.itemPermission(allocation, cell, i)));
-            if (x.itemProtected(allocation, cell, i) == 1) shown.append('!');
-        }
-        return shown.toString();
-    }
-
-    private static void dueStack(String what, BorrowStacks x, int allocation, int cell, String want) {
-        String got = stack(x, allocation, cell);
-        if (!got.equals(want)) {
-            wrong++;
-            System.out.println(what + ": the stack is " + got + ", due is " + want);
-        }
-    }
-
-    private static void dueViolation(String what, BorrowStacks x, int count, int kind, int cell) {
-        due(what + ": violationCount", x.violationCount(), count);
-        due(what + ": violationKind", x.violationKind(), kind);
-        due(what + ": violationCell", x.violationCell(), cell);
-    }
-
-    private static BorrowStacks withCells(int cells) {
-        BorrowStacks x = new BorrowStacks();
-        due("allocate", x.allocate(cells), 0);
-        return x;
+        endOfTest();
     }
 
     private static void promise01NewObject() {
         BorrowStacks x = new BorrowStacks();
         due("1 pointerCount", x.pointerCount(), 0);
         due("1 callDepth", x.callDepth(), 0);
-        dueViolation("1", x, 0, 0, NONE);
+        dueViolations("1", x, 0, 0, NONE);
         for (int kind = 0; kind < 3; kind++) due("1 errorCount", x.errorCount(kind), 0);
         due("1 clearText", x.clearText(), 0);
         due("1 isFreed", x.isFreed(0), INVALID);
@@ -151,7 +92,7 @@ public final class PromiseTest {
         due("3 other cell", x.read(0, 0), 0);
         due("3 free", x.free(0), 2);
         due("3 freed", x.read(0, 1), UNDEFINED);
-        dueViolation("3 freed", x, 1, FREED, 1);
+        dueViolations("3 freed", x, 1, FREED, 1);
         due("3 INVALID before FREED", x.read(0, 2), INVALID);
     }
 
@@ -167,7 +108,7 @@ public final class PromiseTest {
         due("3 raw", x.read(2, 0), 0);
         dueStack("3 by raw", x, 0, 0, "0U 1U 2W 3D 4R");
         due("3 disabled does not grant", x.read(3, 0), UNDEFINED);
-        dueViolation("3", x, 1, NO_PERMISSION, 0);
+        dueViolations("3", x, 1, NO_PERMISSION, 0);
         due("3 bottom", x.read(0, 0), 0);
         dueStack("3 by the bottom", x, 0, 0, "0U 1D 2W 3D 4R");
         due("3 above a disabled one", x.read(4, 0), 0);
@@ -180,7 +121,7 @@ public final class PromiseTest {
         dueStack("3", y, 0, 0, "0U 1W! 2R!");
         y.reborrow(1, MUTABLE, 0, 1, 1);
         dueStack("3 a write would remove a protected item", y, 0, 0, "0U 1W! 2R!");
-        dueViolation("3", y, 1, PROTECTED, 0);
+        dueViolations("3", y, 1, PROTECTED, 0);
     }
 
     private static void promise04Write() {
@@ -197,21 +138,21 @@ public final class PromiseTest {
         x.reborrow(0, SHARED, 0, 1, 0);
         due("4 read only", x.write(1, 0, 1), UNDEFINED);
         due("4 no item at the cell", x.write(1, 1, 1), UNDEFINED);
-        dueViolation("4", x, 2, NO_PERMISSION, 1);
+        dueViolations("4", x, 2, NO_PERMISSION, 1);
         due("4 value stays", x.read(0, 0), 0);
         due("4 removes", x.write(0, 0, 1), 0);
         dueStack("4", x, 0, 0, "0U");
         x.enterCall();
         x.reborrow(0, SHARED, 0, 2, 1);
         due("4 protected", x.write(0, 1, 5), UNDEFINED);
-        dueViolation("4", x, 3, PROTECTED, 1);
+        dueViolations("4", x, 3, PROTECTED, 1);
         dueStack("4 stays", x, 0, 1, "0U 2R!");
         x.leaveCall();
         due("4 no longer protected", x.write(0, 1, 5), 0);
         dueStack("4 gone", x, 0, 1, "0U");
         x.free(0);
         due("4 freed", x.write(0, 1, 5), UNDEFINED);
-        dueViolation("4", x, 4, FREED, 1);
+        dueViolations("4", x, 4, FREED, 1);
         due("4 INVALID before FREED", x.write(0, 1, 100), INVALID);
     }
 
@@ -233,7 +174,7 @@ public final class PromiseTest {
         x.reborrow(1, RAW, 0, 1, 1);
         due("4 a protected one that stays", x.write(1, 0, 3), 2);
         due("4 a protected one that would go", x.write(0, 0, 3), UNDEFINED);
-        dueViolation("4 raw", x, 1, PROTECTED, 0);
+        dueViolations("4 raw", x, 1, PROTECTED, 0);
     }
 
     private static void promise05ReborrowArguments() {
@@ -274,7 +215,7 @@ public final class PromiseTest {
         due("5 shared of shared", x.reborrow(3, SHARED, 0, 1, 0), 4);
         due("5 mutable of shared", x.reborrow(3, MUTABLE, 0, 1, 0), UNDEFINED);
         due("5 raw of shared", x.reborrow(3, RAW, 0, 1, 0), UNDEFINED);
-        dueViolation("5", x, 2, NO_PERMISSION, 0);
+        dueViolations("5", x, 2, NO_PERMISSION, 0);
         due("5 mutable", x.reborrow(0, MUTABLE, 0, 1, 0), 5);
         dueStack("5 mutable removes", x, 0, 0, "0U 5U");
         x.enterCall();
@@ -299,27 +240,27 @@ public final class PromiseTest {
         dueStack("5 above the consecutive ones", x, 0, 0, "0U 5W 3W! 4W 6W 1U 2U!");
         due("5 top", x.reborrow(2, RAW, 0, 1, 0), 7);
         dueStack("5 on top", x, 0, 0, "0U 5W 3W! 4W 6W 1U 2U! 7W");
-        dueViolation("5 raw", x, 0, 0, NONE);
+        dueViolations("5 raw", x, 0, 0, NONE);
     }
 
     private static void promise05ReborrowViolations() {
         BorrowStacks x = withCells(4);
         x.reborrow(0, RAW, 1, 2, 0);
         due("5 starts outside", x.reborrow(1, MUTABLE, 0, 3, 0), UNDEFINED);
-        dueViolation("5", x, 1, NO_PERMISSION, 0);
+        dueViolations("5", x, 1, NO_PERMISSION, 0);
         due("5 ends outside", x.reborrow(1, RAW, 1, 3, 0), UNDEFINED);
-        dueViolation("5", x, 2, NO_PERMISSION, 3);
+        dueViolations("5", x, 2, NO_PERMISSION, 3);
         dueStack("5 stays", x, 0, 1, "0U 1W");
         x.enterCall();
         x.reborrow(0, MUTABLE, 3, 1, 1);
         due("5 protected", x.reborrow(0, SHARED, 0, 4, 0), UNDEFINED);
-        dueViolation("5", x, 3, PROTECTED, 3);
+        dueViolations("5", x, 3, PROTECTED, 3);
         due("5 pointers stay", x.pointerCount(), 3);
         dueStack("5 stays", x, 0, 0, "0U");
         x.leaveCall();
         due("5 free", x.free(0), 4);
         due("5 freed", x.reborrow(2, RAW, 2, 2, 0), UNDEFINED);
-        dueViolation("5 the first cell of the range", x, 4, FREED, 2);
+        dueViolations("5 the first cell of the range", x, 4, FREED, 2);
     }
 
     private static void promise05ReborrowFullStack() {
@@ -357,7 +298,7 @@ public final class PromiseTest {
         for (int i = 0; i < 10; i++) x.reborrow(1, RAW, 0, 1, 0);
         due("5 size", x.stackSize(0, 0), 12);
         due("5 a later violation before an earlier full stack", x.reborrow(1, RAW, 0, 2, 0), UNDEFINED);
-        dueViolation("5", x, 1, NO_PERMISSION, 1);
+        dueViolations("5", x, 1, NO_PERMISSION, 1);
         due("5 full", x.reborrow(0, RAW, 0, 2, 0), FULL);
         due("5 no item", x.stackSize(0, 1), 1);
     }
@@ -371,12 +312,12 @@ public final class PromiseTest {
         x.reborrow(0, RAW, 0, 3, 0);
         x.reborrow(1, SHARED, 0, 3, 0);
         due("6 read only", x.free(2), UNDEFINED);
-        dueViolation("6", x, 1, NO_PERMISSION, 0);
+        dueViolations("6", x, 1, NO_PERMISSION, 0);
         due("6 raw", x.free(1), 3);
         due("6 isFreed", x.isFreed(0), 1);
         dueStack("6 stacks stay", x, 0, 1, "0U 1W 2R");
         due("6 again", x.free(0), UNDEFINED);
-        dueViolation("6", x, 2, FREED, 0);
+        dueViolations("6", x, 2, FREED, 0);
         due("6 pointers stay", x.pointerCount(), 3);
         due("6 allocationOf stays", x.allocationOf(2), 0);
     }
@@ -387,12 +328,12 @@ public final class PromiseTest {
         x.enterCall();
         x.reborrow(0, RAW, 3, 1, 1);
         due("6 no item at the last cell", x.free(1), UNDEFINED);
-        dueViolation("6", x, 1, NO_PERMISSION, 3);
+        dueViolations("6", x, 1, NO_PERMISSION, 3);
         due("6 protected above", x.free(0), UNDEFINED);
-        dueViolation("6", x, 2, PROTECTED, 3);
+        dueViolations("6", x, 2, PROTECTED, 3);
         x.reborrow(1, MUTABLE, 1, 1, 1);
         due("6 an earlier cell is protected", x.free(0), UNDEFINED);
-        dueViolation("6", x, 3, PROTECTED, 1);
+        dueViolations("6", x, 3, PROTECTED, 1);
         due("6 an earlier protection before a later lack", x.checkFree(3), NO_PERMISSION);
 
         BorrowStacks y = withCells(1);
@@ -401,7 +342,7 @@ public final class PromiseTest {
         y.reborrow(1, RAW, 0, 1, 0);
         due("6 write is fine", y.checkWrite(2, 0), 0);
         due("6 a protected item below", y.free(2), UNDEFINED);
-        dueViolation("6", y, 1, PROTECTED, 0);
+        dueViolations("6", y, 1, PROTECTED, 0);
         due("6 its own item is protected", y.free(1), UNDEFINED);
         due("6 not freed", y.isFreed(0), 0);
         y.leaveCall();
@@ -628,18 +569,18 @@ public final class PromiseTest {
         BorrowStacks x = withCells(3);
         x.reborrow(0, SHARED, 2, 1, 0);
         x.write(1, 2, 0);
-        dueViolation("23", x, 1, NO_PERMISSION, 2);
+        dueViolations("23", x, 1, NO_PERMISSION, 2);
         x.enterCall();
         x.reborrow(0, MUTABLE, 1, 1, 1);
         x.read(0, 1);
-        dueViolation("23", x, 2, PROTECTED, 1);
+        dueViolations("23", x, 2, PROTECTED, 1);
         x.read(0, 3);
         x.read(0, 0);
-        dueViolation("23 the latest stays", x, 2, PROTECTED, 1);
+        dueViolations("23 the latest stays", x, 2, PROTECTED, 1);
         x.leaveCall();
         x.free(0);
         x.free(0);
-        dueViolation("23", x, 3, FREED, 0);
+        dueViolations("23", x, 3, FREED, 0);
         due("23 a violation is no counted error", x.errorCount(0) + x.errorCount(1) + x.errorCount(2), 1);
     }
 
@@ -737,14 +678,14 @@ public final class PromiseTest {
         due("29 depth", x.callDepth(), 5);
         script(x, "l;l;l;l;l;r0 0;r60 0;", -1006);
         script(x, "w1 1 1;", -1000);
-        dueViolation("29", x, 1, NO_PERMISSION, 1);
+        dueViolations("29", x, 1, NO_PERMISSION, 1);
         script(x, "a0;", -1000);
         script(x, "a9;", -1000);
         script(x, "s0 0 0;", -1000);
         script(x, "f0;", 1);
         due("29 freed", x.isFreed(0), 1);
         script(x, "f0;", -1000);
-        dueViolation("29", x, 2, FREED, 0);
+        dueViolations("29", x, 2, FREED, 0);
         script(x, "a1;a1;a1;a1;a1;a1;a1;a1;a1;a1;", -1009);
         for (int kind = 0; kind < 3; kind++) due("29 no error counted", x.errorCount(kind), 0);
         type(x, "e;l;".repeat(30));
@@ -777,12 +718,6 @@ public final class PromiseTest {
                 2, 1, 0, 1, 0, 0, 0, 33, 3, 0, 0, 0, 1, 0, 0, 2, 1, 0,
                 1, 0, 0, 1, 3, 0, 0,
                 4, 0, -1, 0, 0, 0, 0, 0, 1, 0, 1, -1, 1));
-    }
-
-    private static long hash(int... values) {
-        long h = 12011;
-        for (int value : values) h = 31 * h + value;
-        return h;
     }
 
     private static void questionsChangeNothing() {
