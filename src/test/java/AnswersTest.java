@@ -3,7 +3,7 @@ import java.math.BigInteger;
 import java.util.ArrayList;
 import java.util.List;
 
-/** The boundary cases of the promises 1 to 26 and 30: a test a sentence. */
+/** The boundary cases of the promises 1 to 26 and 30 and of the constants: a test a sentence. */
 public final class AnswersTest extends Sentences {
     public static void main(String[] args) throws IOException, IllegalAccessException {
         runAll(AnswersTest.class);
@@ -54,6 +54,15 @@ public final class AnswersTest extends Sentences {
         due("behind a reborrow", x.allocate(8), 2);
         due("its parent", x.parent(2), NONE);
         due("its allocation", x.allocationOf(2), 1);
+    }
+
+    @Says(in = "Promise 2: allocate", text = "- `cells`: number of cells, 1 to 8")
+    static void promise02Cells() {
+        for (int cells = 1; cells <= 8; cells++) {
+            BorrowStacks x = withCells(cells);
+            for (int cell = 0; cell < cells; cell++) dueStack("a cell of " + cells, x, 0, cell, "0U");
+            due("no more of them", x.stackSize(0, cells), INVALID);
+        }
     }
 
     @Says(in = "Promise 2: allocate", text = "INVALID if cells is out of range;")
@@ -137,6 +146,17 @@ public final class AnswersTest extends Sentences {
         due("1", x.read(0, 1), 1);
     }
 
+    @Says(in = "Promise 4: write", text = "- `value`: new value, 0 to 99")
+    static void promise04Values() {
+        BorrowStacks x = withCells(1);
+        for (int value = 0; value <= 99; value++) {
+            x.write(0, 0, value);
+            due("value " + value, x.read(0, 0), value);
+        }
+        dueError("value 100", x, INVALID, () -> x.write(0, 0, 100));
+        dueError("value -1", x, INVALID, () -> x.write(0, 0, -1));
+    }
+
     @Says(in = "Promise 4: write", text = "INVALID if an argument is out of range;")
     static void promise04Invalid() {
         BorrowStacks x = withCells(2);
@@ -194,6 +214,18 @@ public final class AnswersTest extends Sentences {
             due("kind " + kind, x.reborrow(0, kind, 0, 1, 0), 1);
             due("its permission", x.itemPermission(0, 0, 1), permissions[kind]);
         }
+    }
+
+    @Says(in = "Promise 5: reborrow", text = "- `from`: index of the first cell of the range")
+    static void promise05From() {
+        for (int from = 0; from < 8; from++) {
+            BorrowStacks x = withCells(8);
+            due("from " + from, x.reborrow(0, SHARED, from, 1, 0), 1);
+            for (int cell = 0; cell < 8; cell++) due("cell " + cell, x.stackSize(0, cell), cell == from ? 2 : 1);
+        }
+        BorrowStacks y = withCells(8);
+        dueError("from -1", y, INVALID, () -> y.reborrow(0, SHARED, -1, 1, 0));
+        dueError("from 8", y, INVALID, () -> y.reborrow(0, SHARED, 8, 1, 0));
     }
 
     @Says(in = "Promise 5: reborrow",
@@ -852,6 +884,63 @@ public final class AnswersTest extends Sentences {
         due("not as REJECTED", x.errorCount(1), 0);
         due("not as FULL", x.errorCount(2), 0);
         dueError("nothing else changes", x, INVALID, () -> x.errorCount(-1));
+    }
+
+    @Says(in = "Promise 26: errorCount", text = "- `kind`: 0 for INVALID, 1 for REJECTED, 2 for FULL")
+    static void promise26Kinds() {
+        for (int kind = 0; kind < 3; kind++) {
+            BorrowStacks x = new BorrowStacks();
+            for (int i = 1; i <= 120; i++) x.append(' ');
+            if (kind == 0) x.allocate(0);
+            if (kind == 1) x.leaveCall();
+            if (kind == 2) x.append(' ');
+            for (int other = 0; other < 3; other++) due("kind " + other, x.errorCount(other), other == kind ? 1 : 0);
+        }
+    }
+
+    // ---- the constants
+
+    @Says(in = "SCRIPTS", text = "- `INVALID = -2`: An argument is out of range or names something that does not exist.")
+    static void constantInvalid() {
+        due("INVALID", BorrowStacks.INVALID, -2);
+        due("out of range", new BorrowStacks().allocate(9), -2);
+        due("does not exist", new BorrowStacks().free(0), -2);
+    }
+
+    @Says(in = "SCRIPTS", text = "- `REJECTED = -3`: The call stack does not allow the call.")
+    static void constantRejected() {
+        due("REJECTED", BorrowStacks.REJECTED, -3);
+        due("leaveCall", new BorrowStacks().leaveCall(), -3);
+        due("reborrow", withCells(1).reborrow(0, MUTABLE, 0, 1, 1), -3);
+    }
+
+    @Says(in = "SCRIPTS", text = "- `FULL = -4`: A capacity would be exceeded.")
+    static void constantFull() {
+        due("FULL", BorrowStacks.FULL, -4);
+        due("reborrow", withFullStack().reborrow(0, RAW, 0, 1, 0), -4);
+        due("allocate", withSixtyPointers().allocate(1), -4);
+    }
+
+    @Says(in = "SCRIPTS", text = "- `UNDEFINED = -5`: The operation is a violation of the aliasing rules.")
+    static void constantUndefined() {
+        due("UNDEFINED", BorrowStacks.UNDEFINED, -5);
+        BorrowStacks x = withCells(1);
+        x.free(0);
+        due("read", x.read(0, 0), -5);
+        due("FREED", BorrowStacks.FREED, x.violationKind());
+        due("FREED", BorrowStacks.FREED, 3);
+        due("NO_PERMISSION", BorrowStacks.NO_PERMISSION, 1);
+        due("PROTECTED", BorrowStacks.PROTECTED, 2);
+    }
+
+    @Says(in = "SCRIPTS", text = "- `NONE = -1`: Returned where there is no such value.")
+    static void constantNone() {
+        due("NONE", BorrowStacks.NONE, -1);
+        BorrowStacks x = withCells(1);
+        due("parent", x.parent(0), -1);
+        due("violationCell", x.violationCell(), -1);
+        x.free(0);
+        due("removedByWrite", x.removedByWrite(0, 0), -1);
     }
 
     // ---- Promise 30: digest

@@ -29,6 +29,20 @@ public final class DescriptionTest extends Sentences {
         dueStack("the ended one does not", x, 0, 0, "0U 1U! 2U! 3U! 4U! 5U");
     }
 
+    @Says(in = "What it is", text = "what later calls answer is free.")
+    static void useBeyond512Calls() {
+        BorrowStacks x = withCells(1);
+        type(x, "e;l;".repeat(30));
+        // No answer is due, but no call may throw, and a question still changes nothing.
+        for (int i = 0; i < 2000; i++) {
+            x.runScript();
+            x.reborrow(0, i % 3, 0, 1, 0);
+            x.append(' ');
+            x.enterCall();
+        }
+        dueQuestion("a question", x, x.pointerCount(), x::pointerCount);
+    }
+
     // ---- MEMORY
 
     @Says(in = "MEMORY", text = "There can be up to 10 allocations, numbered from 0 in the order of allocation;")
@@ -141,6 +155,22 @@ public final class DescriptionTest extends Sentences {
     }
 
     // ---- STACKS
+
+    @Says(in = "STACKS", text = "The permissions are UNIQUE, SHARED_READ_WRITE, SHARED_READ_ONLY and DISABLED.")
+    static void stacksPermissions() {
+        due("UNIQUE", BorrowStacks.UNIQUE, 0);
+        due("SHARED_READ_WRITE", BorrowStacks.SHARED_READ_WRITE, 1);
+        due("SHARED_READ_ONLY", BorrowStacks.SHARED_READ_ONLY, 2);
+        due("DISABLED", BorrowStacks.DISABLED, 3);
+        BorrowStacks x = withCells(1);
+        x.reborrow(0, BorrowStacks.MUTABLE, 0, 1, 0);
+        x.reborrow(0, BorrowStacks.RAW, 0, 1, 0);
+        x.reborrow(0, BorrowStacks.SHARED, 0, 1, 0);
+        due("the bottom", x.itemPermission(0, 0, 0), BorrowStacks.UNIQUE);
+        due("raw", x.itemPermission(0, 0, 1), BorrowStacks.SHARED_READ_WRITE);
+        due("disabled", x.itemPermission(0, 0, 2), BorrowStacks.DISABLED);
+        due("shared", x.itemPermission(0, 0, 3), BorrowStacks.SHARED_READ_ONLY);
+    }
 
     @Says(in = "STACKS", text = "A stack can hold up to 12 items.")
     static void stacksTwelveItems() {
@@ -418,6 +448,30 @@ public final class DescriptionTest extends Sentences {
     }
 
     // ---- REBORROWS
+
+    @Says(in = "REBORROWS", text = "There are three kinds:")
+    static void reborrowKinds() {
+        due("MUTABLE", BorrowStacks.MUTABLE, 0);
+        due("SHARED", BorrowStacks.SHARED, 1);
+        due("RAW", BorrowStacks.RAW, 2);
+        BorrowStacks x = withCells(1);
+        dueError("below the first", x, INVALID, () -> x.reborrow(0, -1, 0, 1, 0));
+        dueError("a fourth", x, INVALID, () -> x.reborrow(0, 3, 0, 1, 0));
+    }
+
+    @Says(in = "REBORROWS",
+            text = "A reborrow creates a new pointer from a given pointer for a range of cells of its allocation.")
+    static void reborrowWithinItsAllocation() {
+        BorrowStacks x = withCells(2);
+        x.allocate(8);
+        x.reborrow(0, RAW, 0, 1, 0);
+        dueError("the other allocation has more cells", x, INVALID, () -> x.reborrow(0, RAW, 0, 3, 0));
+        dueError("the third cell", x, INVALID, () -> x.reborrow(2, RAW, 2, 1, 0));
+        due("all cells of the other", x.reborrow(1, RAW, 0, 8, 0), 3);
+        dueViolation("a range beyond the pointer's own", x, NO_PERMISSION, 1, () -> x.reborrow(2, RAW, 0, 2, 0));
+        due("its own range", x.reborrow(2, RAW, 0, 1, 0), 4);
+        due("parent", x.parent(4), 2);
+    }
 
     @Says(in = "REBORROWS", text = "The new pointer belongs to the same allocation, but only the stacks of the cells in"
             + " the range get an item with its tag.")
