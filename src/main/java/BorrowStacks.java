@@ -29,7 +29,6 @@ public final class BorrowStacks {
     private static final long DIGEST_START = 12011L;
     private static final long DIGEST_FACTOR = 31L;
 
-    // Of both rows the elements below the total are never null: the total grows only when one has been put there.
     private final Allocation[] allocations = new Allocation[MAX_ALLOCATIONS];
     private int allocationTotal;
     private final Pointer[] pointers = new Pointer[MAX_POINTERS];
@@ -99,12 +98,7 @@ public final class BorrowStacks {
         if (through == null) {
             return counted(INVALID);
         }
-        Allocation home = through.home;
-        if (home.freed) {
-            return FREED;
-        }
-        int cell = home.firstCellAgainstFree(pointer, calls);
-        return cell == NONE ? ALLOWED : home.cells[cell].freeViolation(pointer, calls);
+        return through.home.freed ? FREED : through.home.freeViolation(pointer, calls);
     }
 
     public int removedByWrite(int pointer, int cell) {
@@ -239,13 +233,14 @@ public final class BorrowStacks {
         hash = mixed(hash, calls.depth);
         hash = mixed(hash, allocationTotal);
         for (int i = 0; i < allocationTotal; i++) {
-            hash = allocations[i].mixedInto(hash, calls);
+            Allocation one = allocationAt(i);
+            hash = one == null ? hash : one.mixedInto(hash, calls);
         }
         hash = mixed(hash, pointerTotal);
         for (int i = 0; i < pointerTotal; i++) {
-            hash = mixed(hash, pointers[i].home.number);
-            hash = mixed(hash, pointers[i].origin);
-            hash = mixed(hash, pointers[i].home.cellsAliveFor(i));
+            hash = mixed(hash, allocationOf(i));
+            hash = mixed(hash, parent(i));
+            hash = mixed(hash, liveCells(i));
         }
         return hash;
     }
@@ -344,9 +339,9 @@ public final class BorrowStacks {
         if (home.freed) {
             return violated(FREED, 0);
         }
-        int cell = home.firstCellAgainstFree(pointer, calls);
-        if (cell != NONE) {
-            return violated(home.cells[cell].freeViolation(pointer, calls), cell);
+        int violation = home.freeViolation(pointer, calls);
+        if (violation != ALLOWED) {
+            return violated(violation, home.firstCellAgainstFree(pointer, calls));
         }
         home.freed = true;
         return home.cells.length;
@@ -516,6 +511,17 @@ public final class BorrowStacks {
         boolean hasRange(int from, int count) {
             // from + count could overflow; cells.length - from can't once from is in range.
             return from >= 0 && from < cells.length && count >= 1 && count <= cells.length - from;
+        }
+
+        /** What freeing would be, cell by cell with rising index; the caller has looked that it is not freed. */
+        int freeViolation(int tag, Calls calls) {
+            for (int i = 0; i < cells.length; i++) {
+                int violation = cells[i].freeViolation(tag, calls);
+                if (violation != ALLOWED) {
+                    return violation;
+                }
+            }
+            return ALLOWED;
         }
 
         int firstCellAgainstFree(int tag, Calls calls) {
