@@ -13,26 +13,29 @@ import java.util.regex.Pattern;
 /** The public face of the document, and the rules of LANGUAGE.md that can be seen from outside or in the words. */
 public final class FaceTest {
     private static final String SOURCE = "src/main/java/BorrowStacks.java";
-    private static final String[] METHODS = {
-        "int allocate(int)", "int read(int,int)", "int write(int,int,int)", "int reborrow(int,int,int,int,int)",
-        "int free(int)", "int enterCall()", "int leaveCall()", "int checkRead(int,int)", "int checkWrite(int,int)",
-        "int checkFree(int)", "int removedByWrite(int,int)", "int stackSize(int,int)", "int itemTag(int,int,int)",
-        "int itemPermission(int,int,int)", "int itemProtected(int,int,int)", "int allocationOf(int)",
-        "int parent(int)", "int liveCells(int)", "int isFreed(int)", "int pointerCount()", "int callDepth()",
-        "int violationCount()", "int violationKind()", "int violationCell()", "int errorCount(int)",
-        "int append(int)", "int clearText()", "int runScript()", "long digest()"};
-    private static final String[] CONSTANTS = {
-        "INVALID=-2", "REJECTED=-3", "FULL=-4", "UNDEFINED=-5", "NONE=-1", "UNIQUE=0", "SHARED_READ_WRITE=1",
-        "SHARED_READ_ONLY=2", "DISABLED=3", "MUTABLE=0", "SHARED=1", "RAW=2", "NO_PERMISSION=1", "PROTECTED=2",
-        "FREED=3"};
+    private static final Path DOCUMENT = Path.of("../shared/DOC.md");
+    private static final Pattern FACE = Pattern.compile("(?s)## The public face\\s+```java\n(.*?)```");
+    private static final Pattern FACE_METHOD = Pattern.compile("public ((?:int|long) \\w+\\([^)]*\\));");
+    private static final Pattern FACE_CONSTANTS = Pattern.compile("public static final int ([^;]*);");
+    private static final Pattern PROMISE = Pattern.compile("## Promise \\d+: \\w+\n\n`((?:int|long) \\w+\\([^)]*\\))`");
+    /** The methods of a class inside stand one step further to the right, where other methods have their statements. */
+    private static final Pattern METHOD_HEAD = Pattern.compile("( {4}| {8})(?!if|for|while|switch)\\w[^=]*\\) \\{");
+    private static final int MOST_PARAMETERS = 7;
+    private static final int MOST_FIELDS = 20;
+    private static final int MOST_LINES = 60;
     private static final Pattern FORBIDDEN = Pattern.compile(
             "\\b(throw|throws|try|catch|synchronized|assert|import|package|volatile|native|Object|hashCode|toString"
             + "|System\\.(?!arraycopy)\\w+|\\w+Exact)\\b|->|::");
     private static int wrong = 0;
 
     public static void main(String[] args) throws IOException, IllegalAccessException {
-        members();
+        String document = Files.readString(DOCUMENT);
+        Matcher face = FACE.matcher(document);
+        if (!face.find()) fault("the document shows no public face");
+        else members(methods(face.group(1), FACE_METHOD), constants(face.group(1)));
+        promises(document);
         classesInside();
+        sizes();
         words();
         System.out.println(wrong == 0 ? "the face is as due" : wrong + " faults of the face");
         if (wrong != 0) System.exit(1);
@@ -43,12 +46,38 @@ public final class FaceTest {
         System.out.println(what);
     }
 
-    private static void same(String what, Set<String> got, String[] due) {
-        Set<String> wanted = new TreeSet<>(Set.of(due));
-        if (!got.equals(wanted)) fault(what + " are " + got + ", due are " + wanted);
+    private static void same(String what, Set<String> got, Set<String> due) {
+        if (due.isEmpty()) fault(what + ": the document shows none");
+        if (!got.equals(due)) fault(what + " are " + got + ", due are " + due);
     }
 
-    private static void members() throws IllegalAccessException {
+    /** The signatures that the document writes, without the names of the parameters. */
+    private static Set<String> methods(String text, Pattern pattern) {
+        Set<String> found = new TreeSet<>();
+        Matcher matcher = pattern.matcher(text);
+        while (matcher.find()) {
+            found.add(matcher.group(1).replaceAll("int \\w+([,)])", "int$1").replace(", ", ","));
+        }
+        return found;
+    }
+
+    private static Set<String> constants(String face) {
+        Set<String> found = new TreeSet<>();
+        Matcher matcher = FACE_CONSTANTS.matcher(face);
+        while (matcher.find()) found.addAll(Set.of(matcher.group(1).replace(" ", "").split(",")));
+        return found;
+    }
+
+    /** Each method has its promise: the promises tell the same signatures as the face. */
+    private static void promises(String document) {
+        Set<String> open = new TreeSet<>();
+        for (Method method : BorrowStacks.class.getMethods()) {
+            if (method.getDeclaringClass() == BorrowStacks.class) open.add(shown(method));
+        }
+        same("the promised methods", open, methods(document, PROMISE));
+    }
+
+    private static void members(Set<String> dueMethods, Set<String> dueConstants) throws IllegalAccessException {
         int modifiers = BorrowStacks.class.getModifiers();
         if (!Modifier.isPublic(modifiers) || !Modifier.isFinal(modifiers)) fault("the class is not public and final");
         Set<String> open = new TreeSet<>();
@@ -63,7 +92,7 @@ public final class FaceTest {
             open.add(shown(method));
             openNames.add(method.getName());
         }
-        same("the public methods", open, METHODS);
+        same("the public methods", open, dueMethods);
         hiddenNames.retainAll(openNames);
         if (!hiddenNames.isEmpty()) fault("private methods with the name of a public one: " + hiddenNames);
         Constructor<?>[] constructors = BorrowStacks.class.getDeclaredConstructors();
@@ -77,7 +106,7 @@ public final class FaceTest {
             if (field.getType() != int.class || !Modifier.isPublic(set) || !Modifier.isStatic(set)) fault("no constant: " + field);
             else constants.add(field.getName() + "=" + field.getInt(null));
         }
-        same("the constants", constants, CONSTANTS);
+        same("the constants", constants, dueConstants);
     }
 
     private static String shown(Method method) {
@@ -96,6 +125,33 @@ public final class FaceTest {
             int set = one.getModifiers();
             if (!Modifier.isStatic(set)) fault("not static: " + one);
             if (Modifier.isPublic(set) || Modifier.isProtected(set)) fault("too open: " + one);
+        }
+    }
+
+    private static void sizes() throws IOException {
+        sizesOf(BorrowStacks.class);
+        for (Class<?> one : BorrowStacks.class.getDeclaredClasses()) sizesOf(one);
+        String[] lines = Files.readString(Path.of(SOURCE)).split("\n");
+        for (int i = 0; i < lines.length; i++) {
+            Matcher head = METHOD_HEAD.matcher(lines[i]);
+            if (!head.matches()) continue;
+            int end = i;
+            while (end < lines.length && !lines[end].equals(head.group(1) + "}")) end++;
+            if (end - i >= MOST_LINES) fault("a long method: " + lines[i].strip());
+        }
+    }
+
+    private static void sizesOf(Class<?> one) {
+        int fields = 0;
+        for (Field field : one.getDeclaredFields()) {
+            if (!Modifier.isStatic(field.getModifiers())) fields++;
+        }
+        if (fields > MOST_FIELDS) fault(fields + " fields in " + one);
+        for (Method method : one.getDeclaredMethods()) {
+            if (method.getParameterCount() > MOST_PARAMETERS) fault("too many parameters: " + method);
+        }
+        for (Constructor<?> constructor : one.getDeclaredConstructors()) {
+            if (constructor.getParameterCount() > MOST_PARAMETERS) fault("too many parameters: " + constructor);
         }
     }
 
